@@ -1,4 +1,5 @@
 import java.util.NoSuchElementException;
+import java.util.function.Supplier;
 
 /** Counts wrong answers; what a test's main asks at its end. */
 final class Check {
@@ -16,6 +17,10 @@ final class Check {
 
     interface Call {
         void run();
+    }
+
+    interface CallWithNumber {
+        void run(Pickwave planner, int number);
     }
 
     void is(String what, long got, long due) {
@@ -45,15 +50,43 @@ final class Check {
     /** The call throws just this exception and leaves the planner as it is. */
     void isThrown(String what, Class<? extends RuntimeException> due, Pickwave planner, Call call) {
         String before = Look.at(planner);
-        RuntimeException got = null;
-        try {
-            call.run();
-        } catch (RuntimeException e) {
-            got = e;
-        }
+        isThrownUnseen(what, due, call);
+        isText(what + ": what is left behind", Look.at(planner), before);
+    }
+
+    /** The call throws just this exception; no look spends the calls that a planner has left of its 512. */
+    void isThrownUnseen(String what, Class<? extends RuntimeException> due, Call call) {
+        RuntimeException got = thrownBy(call);
         isTrue(what + " threw " + got + ", due is " + due, got != null && got.getClass() == due);
         isTrue(what + ": the library threw " + got, got == null || isThrownByThePlanner(got));
-        isText(what + ": what is left behind", Look.at(planner), before);
+    }
+
+    void isTaken(String what, Call call) {
+        RuntimeException got = thrownBy(call);
+        isTrue(what + " threw " + got + ", due is an answer", got == null);
+    }
+
+    private static RuntimeException thrownBy(Call call) {
+        try {
+            call.run();
+            return null;
+        } catch (RuntimeException e) {
+            return e;
+        }
+    }
+
+    /** The call takes each number from least to most and none beside them, each on a new planner. */
+    void isBetween(String what, Class<? extends RuntimeException> due, int least, int most,
+            Supplier<Pickwave> maker, CallWithNumber call) {
+        for (int number = least; number <= most; number++) {
+            int taken = number;
+            Pickwave planner = maker.get();
+            isTaken(what + " " + taken, () -> call.run(planner, taken));
+        }
+        for (int wrong : new int[] {least - 1, most + 1, Integer.MIN_VALUE, Integer.MAX_VALUE}) {
+            Pickwave planner = maker.get();
+            isThrown(what + " " + wrong, due, planner, () -> call.run(planner, wrong));
+        }
     }
 
     /** A list's get throws as the document asks, too, but then its index was not looked at. */

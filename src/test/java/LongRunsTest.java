@@ -1,236 +1,319 @@
+import java.util.function.Supplier;
+
 /**
- * Long runs of calls with right and wrong numbers, the same at every start:
- * what must hold after each call, whatever came before it.
+ * Runs of 512 calls with right and wrong numbers, the same at every start: each answer of the class is that of
+ * the model, and after each call what must hold holds of the model, whatever came before it.
  */
 public final class LongRunsTest {
-    private static final int RUNS = 150;
     private static final int CALLS = 512;
-    private static final int KINDS = 13;
-    private static final int THROWN = -2;
+    /** More than all readings but those of the scans. */
+    private static final int LAST_LOOK = 120;
+    private static final int RUNS = 1500;
+    private static final int RUNS_ON_A_FULL_RESERVE = 100;
+    private static final int RUNS_LATE_IN_THE_DAY = 50;
 
     private static final Check check = new Check();
 
     private final Pickwave x = new Pickwave();
-    private final int[] articleOf = new int[12];
+    private final Model model = new Model();
+    private final String name;
     private long seed;
-    private int articles;
+    private int calls;
     private int unitsDue;
-    private int badDue;
-    private int wavesDue;
-    private int minuteDue;
 
-    private LongRunsTest(long seed) {
-        this.seed = seed;
-    }
-
-    private interface Call {
-        int answer();
+    private LongRunsTest(String kind, int number) {
+        name = kind + " " + number;
+        seed = number;
     }
 
     public static void main(String[] args) {
-        for (int run = 0; run < RUNS; run++) {
-            new LongRunsTest(run).run();
+        for (int i = 0; i < RUNS; i++) {
+            new LongRunsTest("run", i).run();
+        }
+        for (int i = 0; i < RUNS_ON_A_FULL_RESERVE; i++) {
+            new LongRunsTest("run on a full reserve", i).runOnAFullReserve();
+        }
+        for (int i = 0; i < RUNS_LATE_IN_THE_DAY; i++) {
+            new LongRunsTest("run late in the day", i).runLateInTheDay();
         }
         check.end("LongRunsTest");
     }
 
     private void run() {
-        for (int i = 0; i < CALLS; i++) {
-            callOneOf(i < 3 ? 0 : upTo(KINDS));
-            nothingIsPromisedTwice();
-            unitsAreNotLost();
-            sumsAreOfTheShippedOrders();
-            check.isText("the states by all scans", Look.statesByScans(x), Look.states(x));
-            check.is("waves()", x.waves(), wavesDue);
-            check.is("minute()", x.minute(), minuteDue);
-            check.is("writtenOff()", x.writtenOff(), badDue);
+        int articles = upTo(4);
+        for (int i = 0; i < articles; i++) {
+            addArticle();
         }
+        int end = upTo(CALLS - LAST_LOOK);
+        while (calls < end) {
+            callOneOf(upTo(36));
+        }
+        lookAtAll();
+    }
+
+    /** Robots lift the reserve over what returns can make of it, and take it down again. */
+    private void runOnAFullReserve() {
+        addArticle(0, 30, 999, 30);
+        for (int i = 0; i < 450; i++) {
+            giveBack(0, 20, 0);
+        }
+        while (calls < CALLS) {
+            switch (upTo(7)) {
+                case 0 -> order(0, 1 + upTo(5), 0);
+                case 1 -> wave(0);
+                case 2 -> pickAnOrder();
+                case 3 -> giveBack(0, near(0, 20), near(0, 20));
+                case 4 -> send(upTo(2), 0);
+                case 5 -> pass(near(1, 5));
+                default -> readAnArticle();
+            }
+        }
+    }
+
+    private void runLateInTheDay() {
+        for (int i = 0; i < 23; i++) {
+            pass(60);
+        }
+        run();
     }
 
     private void callOneOf(int kind) {
         switch (kind) {
-            case 0 -> addArticle();
-            case 1, 2 -> order();
-            case 3 -> drop();
-            case 4, 5 -> pick();
-            case 6 -> ship();
-            case 7 -> wave();
-            case 8 -> setBlocked();
-            case 9 -> setPickers();
-            case 10 -> giveBack();
-            case 11 -> send();
-            default -> pass();
+            case 0, 1 -> addArticle();
+            case 2, 3, 4, 5 -> order(nearArticle(), near(1, 20), near(0, 2));
+            case 6, 7, 8 -> wave(near(0, 2));
+            case 9, 10, 11, 12 -> pickAnOrder();
+            case 13 -> drop(nearOrder());
+            case 14, 15 -> ship(near(0, 2));
+            case 16, 17 -> setBlocked(near(0, 3), upTo(3) == 0);
+            case 18 -> setPickers(near(0, 3), near(0, 9));
+            case 19, 20 -> giveBack(nearArticle(), near(0, 20), near(0, 20));
+            case 21 -> setCutOff(near(0, 2), near(0, 1439));
+            case 22, 23, 24 -> send(near(0, 1), nearArticle());
+            case 25, 26 -> pass(near(1, 6));
+            case 27 -> pass(near(1, 60));
+            default -> readOneOf(kind);
+        }
+    }
+
+    private void readOneOf(int kind) {
+        switch (kind) {
+            case 28, 29 -> readAnArticle();
+            case 30, 31 -> readOrder(upTo(5), nearOrder());
+            case 32 -> readRobot(upTo(3), near(0, 1));
+            case 33 -> readScan(upTo(2), near(0, model.scans() - 1));
+            case 34 -> minutesLeft(near(0, 2));
+            default -> readSum(upTo(8));
         }
     }
 
     private void addArticle() {
-        int aisle = near(0, 3);
-        int stock = near(0, 20);
-        int reserve = near(0, 40);
-        int room = near(20, 30);
-        if (attempt(() -> x.addArticle(aisle, stock, reserve, room)) != THROWN) {
-            articles++;
-            unitsDue += stock + reserve;
-        }
+        int room = upTo(4) == 0 ? near(1, 99) : near(20, 30);
+        addArticle(near(0, 3), near(0, Math.min(room, 20)), near(0, upTo(10) == 0 ? 999 : 40), room);
     }
 
-    private void order() {
-        int article = near(0, articles - 1);
-        int amount = near(1, 20);
-        int carrier = near(0, 2);
-        int number = attempt(() -> x.order(article, amount, carrier));
-        if (number != THROWN) {
-            articleOf[number] = article;
-        }
+    private void addArticle(int aisle, int stock, int reserve, int room) {
+        int before = model.articles();
+        same("addArticle", () -> x.addArticle(aisle, stock, reserve, room),
+                () -> model.addArticle(aisle, stock, reserve, room));
+        unitsDue += model.articles() > before ? stock + reserve : 0;
+        theseHold();
     }
 
-    private void drop() {
-        int order = near(0, x.orders() - 1);
-        int free = attempt(() -> x.drop(order));
-        if (free != THROWN) {
-            check.is("what is free then", free, x.free(articleOf[order]));
-            check.isSign("state", x.state(order), 'd');
-        }
+    private void order(int article, int amount, int carrier) {
+        same("order", () -> x.order(article, amount, carrier), () -> model.order(article, amount, carrier));
+        theseHold();
     }
 
-    private void pick() {
-        int order = near(0, x.orders() - 1);
-        boolean isOrder = order >= 0 && order < x.orders();
-        int amount = isOrder ? x.amount(order) : 0;
-        int stock = isOrder ? x.stock(articleOf[order]) : 0;
-        int found = upTo(3) == 0 ? near(0, amount) : amount;
-        int split = attempt(() -> x.pick(order, found));
-        if (split >= 0) {
-            articleOf[split] = articleOf[order];
+    private void drop(int order) {
+        same("drop", () -> x.drop(order), () -> model.drop(order));
+        theseHold();
+    }
+
+    private void pickAnOrder() {
+        int order = nearOrder();
+        int amount = isOrder(order) ? model.amount(order) : 1;
+        pick(order, upTo(3) == 0 ? near(0, amount) : amount);
+    }
+
+    private void pick(int order, int found) {
+        int before = model.orders();
+        int stock = isOrder(order) ? model.stock(model.articleOf(order)) : 0;
+        same("pick", () -> x.pick(order, found), () -> model.pick(order, found));
+        if (model.orders() > before) {
             unitsDue -= stock - found;
-            check.is("the new order", split, x.orders() - 1);
-            check.is("what was found, and the rest", x.amount(order) + x.amount(split), amount);
-            check.is("nothing is promised of it", x.promised(articleOf[split]), 0);
+            check.is("nothing is promised behind a split", model.promised(model.articleOf(order)), 0);
+            check.is("nothing is on the shelf", model.stock(model.articleOf(order)), 0);
+        }
+        theseHold();
+    }
+
+    private void ship(int carrier) {
+        same("ship", () -> x.ship(carrier), () -> model.ship(carrier));
+        theseHold();
+    }
+
+    private void wave(int carrier) {
+        same("wave", () -> x.wave(carrier), () -> model.wave(carrier));
+        theseHold();
+    }
+
+    private void setBlocked(int aisle, boolean isBlocked) {
+        same("setBlocked", () -> x.setBlocked(aisle, isBlocked), () -> model.setBlocked(aisle, isBlocked));
+        theseHold();
+    }
+
+    private void setPickers(int aisle, int pickers) {
+        same("setPickers", () -> x.setPickers(aisle, pickers), () -> model.setPickers(aisle, pickers));
+        theseHold();
+    }
+
+    private void setCutOff(int carrier, int minute) {
+        same("setCutOff", () -> x.setCutOff(carrier, minute), () -> model.setCutOff(carrier, minute));
+        theseHold();
+    }
+
+    private void giveBack(int article, int good, int bad) {
+        String answer = same("giveBack", () -> x.giveBack(article, good, bad),
+                () -> model.giveBack(article, good, bad));
+        unitsDue += isNumber(answer) ? good : 0;
+        theseHold();
+    }
+
+    private void send(int robot, int article) {
+        same("send", () -> x.send(robot, article), () -> model.send(robot, article));
+        theseHold();
+    }
+
+    private void pass(int minutes) {
+        same("pass", () -> x.pass(minutes), () -> model.pass(minutes));
+        theseHold();
+    }
+
+    private void readAnArticle() {
+        readArticle(upTo(5), nearArticle());
+    }
+
+    private void readArticle(int what, int article) {
+        switch (what) {
+            case 0 -> same("stock", () -> x.stock(article), () -> model.stock(article));
+            case 1 -> same("reserve", () -> x.reserve(article), () -> model.reserve(article));
+            case 2 -> same("free", () -> x.free(article), () -> model.free(article));
+            case 3 -> same("promised", () -> x.promised(article), () -> model.promised(article));
+            default -> same("promisedByScans", () -> x.promisedByScans(article), () -> model.promised(article));
         }
     }
 
-    private void ship() {
-        int carrier = near(0, 2);
-        int before = count('s');
-        int shipped = attempt(() -> x.ship(carrier));
-        check.is("shipped ones", count('s') - before, Math.max(shipped, 0));
-    }
-
-    private void wave() {
-        int carrier = near(0, 2);
-        int before = count('p');
-        int promised = attempt(() -> x.wave(carrier));
-        check.is("promised ones", count('p') - before, Math.max(promised, 0));
-        if (promised != THROWN) {
-            wavesDue++;
+    private void readOrder(int what, int order) {
+        switch (what) {
+            case 0 -> same("state", () -> x.state(order), () -> model.state(order));
+            case 1 -> same("stateByScans", () -> x.stateByScans(order), () -> model.state(order));
+            case 2 -> same("amount", () -> x.amount(order), () -> model.amount(order));
+            default -> same("waveOf", () -> x.waveOf(order), () -> model.waveOf(order));
         }
     }
 
-    private void setBlocked() {
-        int aisle = near(0, 3);
-        boolean isBlocked = upTo(3) == 0;
-        attempt(() -> x.setBlocked(aisle, isBlocked) ? 1 : 0);
-    }
-
-    private void setPickers() {
-        int aisle = near(0, 3);
-        int pickers = near(0, 9);
-        attempt(() -> x.setPickers(aisle, pickers));
-    }
-
-    private void giveBack() {
-        int article = near(0, articles - 1);
-        int good = near(0, 20);
-        int bad = near(0, 20);
-        if (attempt(() -> x.giveBack(article, good, bad)) != THROWN) {
-            unitsDue += good;
-            badDue += bad;
+    private void readRobot(int what, int robot) {
+        switch (what) {
+            case 0 -> same("carried", () -> x.carried(robot), () -> model.carried(robot));
+            case 1 -> same("minutesOf", () -> x.minutesOf(robot), () -> model.minutesOf(robot));
+            default -> same("aisleOf", () -> x.aisleOf(robot), () -> model.aisleOf(robot));
         }
     }
 
-    private void send() {
-        int robot = near(0, 1);
-        int article = near(0, articles - 1);
-        int minutes = attempt(() -> x.send(robot, article));
-        if (minutes != THROWN) {
-            check.is("minutesOf", x.minutesOf(robot), minutes);
-            check.isTrue("it carries 1 to 10", x.carried(robot) >= 1 && x.carried(robot) <= 10);
+    private void readScan(int what, int scan) {
+        switch (what) {
+            case 0 -> same("scanOrder", () -> x.scanOrder(scan), () -> model.scanOrder(scan));
+            default -> same("scanSign", () -> x.scanSign(scan), () -> model.scanSign(scan));
         }
     }
 
-    private void pass() {
-        int minutes = near(1, 6);
-        int before = sumOfStocks();
-        int brought = attempt(() -> x.pass(minutes));
-        check.is("units that came to shelves", sumOfStocks() - before, Math.max(brought, 0));
-        if (brought != THROWN) {
-            minuteDue += minutes;
+    private void minutesLeft(int carrier) {
+        same("minutesLeft", () -> x.minutesLeft(carrier), () -> model.minutesLeft(carrier));
+    }
+
+    private void readSum(int what) {
+        switch (what) {
+            case 0 -> same("writtenOff", x::writtenOff, model::writtenOff);
+            case 1 -> same("orders", x::orders, model::orders);
+            case 2 -> same("waves", x::waves, model::waves);
+            case 3 -> same("minute", x::minute, model::minute);
+            case 4 -> same("scans", x::scans, model::scans);
+            case 5 -> same("shipped", x::shipped, model::shipped);
+            default -> same("shippedShare", x::shippedShare, model::shippedShare);
         }
     }
 
-    private void nothingIsPromisedTwice() {
-        for (int article = 0; article < articles; article++) {
-            int sum = 0;
-            for (int i = 0; i < x.orders(); i++) {
-                sum += articleOf[i] == article && x.state(i) == 'p' ? x.amount(i) : 0;
+    /** All readings, and those of as many of the last scans as the 512 calls leave room for. */
+    private void lookAtAll() {
+        for (int what = 0; what < 7; what++) {
+            readSum(what);
+            for (int article = 0; what < 5 && article < model.articles(); article++) {
+                readArticle(what, article);
             }
-            check.is("promised", x.promised(article), sum);
-            check.is("promisedByScans", x.promisedByScans(article), sum);
-            check.is("free", x.free(article), x.stock(article) - sum);
-            check.isTrue("free is not below 0", x.free(article) >= 0);
+            for (int order = 0; what < 4 && order < model.orders(); order++) {
+                readOrder(what, order);
+            }
+            for (int robot = 0; what < 3 && robot < 2; robot++) {
+                readRobot(what, robot);
+            }
         }
+        for (int carrier = 0; carrier < 3; carrier++) {
+            minutesLeft(carrier);
+        }
+        for (int scan = model.scans() - 1; scan >= 0 && calls <= CALLS - 2; scan--) {
+            readScan(0, scan);
+            readScan(1, scan);
+        }
+        check.isTrue("an object is used for at most 512 calls", calls <= CALLS);
     }
 
-    private void unitsAreNotLost() {
-        int units = sumOfStocks() + x.carried(0) + x.carried(1);
-        for (int article = 0; article < articles; article++) {
-            units += x.reserve(article);
+    private void theseHold() {
+        for (int article = 0; article < model.articles(); article++) {
+            check.isTrue("more is promised than is on the shelf", model.free(article) >= 0);
+            check.isTrue("the shelf has no room for its stock", model.stock(article) <= model.roomOf(article));
         }
-        for (int i = 0; i < x.orders(); i++) {
-            units += x.state(i) == 'k' || x.state(i) == 's' ? x.amount(i) : 0;
-        }
-        check.is("all units", units, unitsDue);
+        check.is("all units", model.allUnits(), unitsDue);
     }
 
-    private void sumsAreOfTheShippedOrders() {
-        long sum = 0;
-        for (int i = 0; i < x.orders(); i++) {
-            sum += x.state(i) == 's' ? x.amount(i) : 0;
-        }
-        check.is("shipped()", x.shipped(), sum);
-        if (x.orders() > 0) {
-            check.isShare("shippedShare()", x.shippedShare(), (float) count('s') / (float) x.orders());
-        }
+    private String same(String what, Supplier<Object> call, Supplier<Object> callOfTheModel) {
+        calls++;
+        String due = answer(callOfTheModel);
+        check.isText(name + ", call " + calls + ": " + what, answerOfTheClass(call), due);
+        return due;
     }
 
-    private int sumOfStocks() {
-        int sum = 0;
-        for (int article = 0; article < articles; article++) {
-            sum += x.stock(article);
-        }
-        return sum;
-    }
-
-    private int count(char state) {
-        int count = 0;
-        for (int i = 0; i < x.orders(); i++) {
-            count += x.state(i) == state ? 1 : 0;
-        }
-        return count;
-    }
-
-    private int attempt(Call call) {
-        String before = Look.at(x);
+    private static String answer(Supplier<Object> call) {
         try {
-            return call.answer();
+            return String.valueOf(call.get());
         } catch (RuntimeException e) {
-            Class<?> kind = e.getClass();
-            check.isTrue("thrown was " + e, kind == Check.INDEX || kind == Check.ARGUMENT
-                    || kind == Check.STATE || kind == Check.UNSUPPORTED || kind == Check.NO_ELEMENT);
-            check.isTrue("the library threw " + e, Check.isThrownByThePlanner(e));
-            check.isText("what a call that throws leaves behind", Look.at(x), before);
-            return THROWN;
+            return e.getClass().getSimpleName();
         }
+    }
+
+    private static String answerOfTheClass(Supplier<Object> call) {
+        try {
+            return String.valueOf(call.get());
+        } catch (RuntimeException e) {
+            check.isTrue("the library threw " + e, Check.isThrownByThePlanner(e));
+            return e.getClass().getSimpleName();
+        }
+    }
+
+    private static boolean isNumber(String answer) {
+        return Character.isDigit(answer.charAt(0));
+    }
+
+    private boolean isOrder(int order) {
+        return order >= 0 && order < model.orders();
+    }
+
+    private int nearArticle() {
+        return near(0, model.articles() - 1);
+    }
+
+    private int nearOrder() {
+        return near(0, model.orders() - 1);
     }
 
     /** Mostly from least to most, sometimes beside them or far off. */

@@ -8,6 +8,7 @@ public final class RobotsTest {
         promise25Minutes();
         promise25MinutesAreToldWhenItIsSent();
         promise25WhatIsChecked();
+        promise25BlockedAisles();
         promises26To28Readings();
         promises25To28WrongNumbers();
         promise29Bring();
@@ -94,16 +95,27 @@ public final class RobotsTest {
         check.is("the other one is idle", x.minutesOf(1), 18);
     }
 
-    private static void promise25WhatIsChecked() {
+    /** The article 0 can be fetched, the article 1 has no reserve, the article 2 no room. */
+    private static Pickwave threeArticles() {
         Pickwave x = oneArticle(0, 99, 99);
         x.addArticle(1, 0, 0, 9);
         x.addArticle(2, 9, 9, 9);
+        return x;
+    }
+
+    private static void promise25WhatIsChecked() {
+        Pickwave x = threeArticles();
         check.isThrown("no reserve", Check.NO_ELEMENT, x, () -> x.send(0, 1));
         check.isThrown("no room", Check.NO_ELEMENT, x, () -> x.send(0, 2));
         x.send(0, 0);
         check.isThrown("on its way", Check.STATE, x, () -> x.send(0, 0));
         check.isThrown("on its way, and no reserve", Check.STATE, x, () -> x.send(0, 1));
         check.isThrown("on its way, and no room", Check.STATE, x, () -> x.send(0, 2));
+    }
+
+    private static void promise25BlockedAisles() {
+        Pickwave x = threeArticles();
+        x.send(0, 0);
         x.setBlocked(0, true);
         x.setBlocked(1, true);
         check.isThrown("blocked", Check.UNSUPPORTED, x, () -> x.send(1, 0));
@@ -147,15 +159,20 @@ public final class RobotsTest {
     }
 
     private static void promises25To28WrongNumbers() {
-        Pickwave x = oneArticle(0, 99, 99);
-        isNoRobot(x, 2);
+        isNoRobot(oneArticle(0, 99, 99), 2);
+        isNoArticle(1);
         for (int far : Check.FAR_OFF) {
-            isNoRobot(x, far);
-            check.isThrown("no article", Check.INDEX, x, () -> x.send(0, far));
+            isNoRobot(oneArticle(0, 99, 99), far);
+            isNoArticle(far);
         }
-        check.isThrown("no article", Check.INDEX, x, () -> x.send(0, 1));
+        Pickwave x = oneArticle(0, 99, 99);
         x.setBlocked(0, true);
         isNoRobot(x, 2);
+    }
+
+    private static void isNoArticle(int article) {
+        Pickwave x = oneArticle(0, 99, 99);
+        check.isThrown("no article", Check.INDEX, x, () -> x.send(0, article));
     }
 
     private static void isNoRobot(Pickwave x, int robot) {

@@ -62,12 +62,10 @@ public final class ScansTest {
     }
 
     private static void promises32And33WrongNumbers() {
-        Pickwave x = oneArticle();
-        isNoScan(x, 0);
-        x.order(0, 4, 0);
-        isNoScan(x, 1);
+        isNoScan(oneArticle(), 0);
+        isNoScan(Planners.orders(1), 1);
         for (int far : Check.FAR_OFF) {
-            isNoScan(x, far);
+            isNoScan(Planners.orders(1), far);
         }
     }
 

@@ -208,14 +208,14 @@ public final class WavesTest {
     }
 
     private static void promises19To24WrongCarriers() {
-        Pickwave x = new Pickwave();
-        isNoCarrier(x, 3);
+        isNoCarrier(3);
         for (int far : Check.FAR_OFF) {
-            isNoCarrier(x, far);
+            isNoCarrier(far);
         }
     }
 
-    private static void isNoCarrier(Pickwave x, int carrier) {
+    private static void isNoCarrier(int carrier) {
+        Pickwave x = new Pickwave();
         check.isThrown("ship", Check.INDEX, x, () -> x.ship(carrier));
         check.isThrown("setCutOff", Check.INDEX, x, () -> x.setCutOff(carrier, 5));
         check.isThrown("wave", Check.INDEX, x, () -> x.wave(carrier));
